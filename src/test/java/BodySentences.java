@@ -246,6 +246,8 @@ final class BodySentences {
             floatSum(-Float.MAX_VALUE, -Float.MAX_VALUE), floatSum(tiny, tiny), floatSum(tiny, -Float.MIN_NORMAL),
             floatSum(Float.MIN_NORMAL, -tiny), floatSum(endless, 1f), floatSum(1f, -endless), floatSum(endless, endless),
             floatSum(1f, 0x1p-24f), floatSum(0x1.000002p0f, 0x1p-24f), floatSum(1f, 0x1.000002p-24f),
+            floatSum(0f, -0f), floatSum(1f, -0x1.000002p-24f), floatSum(0x1p64f, 1f), floatSum(1e30f, -1e-30f),
+            doubleSum(0.0, -0.0), doubleSum(1, -0x1.0000000000001p-53), doubleSum(1, 0x1p64), doubleSum(1e300, 1e-300),
             doubleSum(0.1, 0.2), doubleSum(0x1p53, 1), doubleSum(0x1p53, 3), doubleSum(-0.0, -0.0), doubleSum(5, -5),
             doubleSum(Double.MAX_VALUE, Double.MAX_VALUE), doubleSum(small, small), doubleSum(Double.MIN_NORMAL, -small),
             doubleSum(1e300, -1e284), doubleSum(Double.NEGATIVE_INFINITY, 1), doubleSum(Double.NEGATIVE_INFINITY, -endless),

@@ -25,11 +25,12 @@ final class NumbersTest {
     private static final int[][] sum = new int[8][8];
 
     public static void main(String[] args) {
-        fresh();
-        for (int i = 0; i < WHOLES.length; i++) {
-            widenWhole(WHOLES[i]);
+        for (long whole : WHOLES) {
+            fresh();
+            widenWhole(whole);
         }
         for (float f : FLOATS) {
+            fresh();
             widenFloat(f);
         }
         edges();

@@ -100,6 +100,15 @@ final class ThingSentences {
         s.says(23, "with a VALUE for each FIELD that is not STATIC of it, its PARENT, and so on (0, 0.0, NOTHING at first);",
             first + "object(10) = 0\n" + read, """
             type(8, 0, false) = 9
+            field(9, 0, 1, 9) = 0
+            field(9, 1, 1, 7) = 1
+            object(9) = 0
+            get(0, 0, 8, 1) = 1
+            bits(1) = -1
+            get(1, 0, 7, 1) = 1
+            bits(1) = 0
+            """, """
+            type(8, 0, false) = 9
             type(9, 0, false) = 10
             type(10, 0, false) = 11
             field(9, 0, 1, 4) = 0
@@ -334,7 +343,14 @@ final class ThingSentences {
                 }
             }
         }
-        s.says(30, "A VALUE GOES INTO a type: a PRIMITIVE that WIDENS to it (it is widened);", run.toString());
+        float[] floats = {0f, -0f, 1f, 0.1f, -0.1f, Float.MIN_VALUE, -Float.MIN_VALUE, Float.MIN_NORMAL, 0x0.fffffep-126f,
+            Float.MAX_VALUE, Float.POSITIVE_INFINITY, Float.NEGATIVE_INFINITY};
+        StringBuilder toDouble = new StringBuilder("type(8, 0, false) = 9\nfield(9, 0, 5, 7) = 0\n");
+        for (float value : floats) {
+            toDouble.append("slot(0, 6, " + Sentences.f(value) + ") = 1\nset(0, -1, 0) = 1\nget(0, -1, 7, 1) = 1\n"
+                + slotIs(1, 7, Sentences.d(value)));
+        }
+        s.says(30, "A VALUE GOES INTO a type: a PRIMITIVE that WIDENS to it (it is widened);", run.toString(), toDouble.toString());
         s.says(30, "a REFERENCE into a type that it IS, NOTHING into each REFERENCE.", """
             face(0) = 9
             type(8, 0, false) = 10

@@ -330,6 +330,14 @@ final class TypeSentences {
             is(14, 10) = 0
             is(14, 9) = 0
             is(11, 14) = 0
+            """, """
+            face(0) = 9
+            type(8, 0, false) = 10
+            rows(10) = 11
+            rows(9) = 12
+            is(11, 12) = 0
+            implement(10, 9) = 1
+            is(11, 12) = 1                      // as what they are of IS now
             """);
     }
 
