@@ -614,7 +614,20 @@ final class BodySentences {
             caller(9) = 8
             call(0, 0, 0, 0) = -19
             """ + causeIs(1, 0, 0) + "call(1, 0, 0, 0) = -19\n" + causeIs(2, 1, 0) + "call(4, 0, 0, 0) = -19\n" + causeIs(1, 0, 1)
-            + "call(5, 0, 0, 0) = -19\n" + causeIs(2, 1, 1));
+            + "call(5, 0, 0, 0) = -19\n" + causeIs(2, 1, 1), """
+            face(0) = 9
+            type(8, 0, false) = 10
+            implement(10, 9) = 1
+            method(9, 0, 2, 4, 0, 0, 0, 0) = 0  // PRIVATE, of a FACE
+            method(10, 0, 1, 4, 0, 0, 0, 0) = 1 // LIKE it, and all may use it
+            method(9, 1, 1, 4, 0, 0, 0, 0) = 2
+            body(0, 4, 3, 0) = 1
+            body(1, 4, 4, 0) = 1
+            body(2, 5, 0, 0) = 1
+            object(10) = 0
+            open(0, true) = 0
+            call(0, 0, 0, 0) = -19
+            """ + causeIs(3, 0, 0) + "call(2, 0, 0, 0) = -19\n" + causeIs(3, 0, 1));
         s.says(35, "by 7 the one above itself;", """
             type(8, 0, false) = 9
             type(9, 0, false) = 10

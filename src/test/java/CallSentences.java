@@ -108,6 +108,22 @@ final class CallSentences {
             call(0, 0, 0, 7) ! -16              // GUARDED: the OBJECT must be of THE CALLER
             call(0, -1, 0, 7) ! -16
             call(0, 1, 0, 7) = 1
+            """, """
+            type(8, 1, false) = 9
+            type(9, 1, false) = 10
+            method(9, 0, 1, 4, 0, 0, 0, 0) = 0
+            method(10, 0, 0, 4, 0, 0, 0, 0) = 1 // IN FORCE for 10, but its PACKAGE's alone
+            method(9, 1, 0, 4, 0, 0, 0, 0) = 2
+            method(10, 1, 1, 4, 0, 0, 0, 0) = 3
+            object(10) = 0
+            call(0, 0, 0, 7) = 1                // ACCESS is to the one that is told
+            call(1, 0, 0, 7) ! -16
+            call(2, 0, 0, 7) ! -16
+            call(3, 0, 0, 7) = 1
+            open(3, true) = 0
+            call(2, 0, 0, 7) ! -16
+            open(2, true) = 0
+            call(2, 0, 0, 7) = 1
             """);
         s.says(35, "of one that is not STATIC: NULL; ARGUMENT (the THING's type IS NOT the METHOD's);", HOUSE + """
             call(0, -1, 2, 7) ! -11
