@@ -140,7 +140,18 @@ final class BodySentences {
             bits(5) = 0
             get(1, -1, 5, 6) = 1
             bits(6) = 6
-            """);
+            """, house + """
+            field(10, 2, 1, 7) = 2
+            field(10, 3, 5, 6) = 3
+            method(10, 0, 1, -1, 1, 4, 0, 0) = 4
+            method(10, 1, 5, -1, 1, 5, 0, 0) = 5
+            body(4, 3, 2, 0) = 1
+            body(5, 3, 3, 0) = 1
+            object(10) = 0
+            slot(0, 2, -3) = 1
+            call(4, 0, 1, 5) = 1
+            get(2, 0, 7, 6) = 1                 // what the FIELD is of, so widened
+            """ + slotIs(6, 7, Sentences.d(-3.0)) + "call(5, -1, 1, 5) = 1\nget(3, -1, 6, 6) = 1\n" + slotIs(6, 6, Sentences.f(-3f)));
     }
 
     private void failing() {

@@ -175,6 +175,24 @@ final class CallSentences {
             call(0, -1, 3, 7) = 1
             bits(7) = -1
             """);
+        s.says(35, "A VALUE GOES INTO a type: a PRIMITIVE that WIDENS to it (it is widened);", widenedParams());
+    }
+
+    /** A SLOT of each NUMBER for a PARAM of each to which it WIDENS, which is given back as it came. */
+    private static String widenedParams() {
+        StringBuilder run = new StringBuilder("type(8, 0, false) = 9\n");
+        long[] five = {0, 5, 5, 5, 5, 5, Sentences.f(5f), Sentences.d(5.0)};
+        for (int to = 1; to <= 7; to++) {
+            run.append("method(9, " + to + ", 5, " + to + ", 3, 4, " + to + ", 4) = " + (to - 1) + "\nbody(" + (to - 1) + ", 1, 1, 0) = 1\n");
+        }
+        for (int from = 1; from <= 7; from++) {
+            run.append("slot(1, " + from + ", " + five[from] + ") = 1\n");
+            for (int to = 1; to <= 7; to++) {
+                boolean goes = from == to || (from == 1 ? to >= 4 : from < to);
+                run.append("call(" + (to - 1) + ", -1, 3, 7) " + (goes ? "= 1\n" + slotIs(7, to, five[to]) : "! -12\n"));
+            }
+        }
+        return run.toString();
     }
 
     private void callEnds() {

@@ -677,6 +677,10 @@ final class ThingSentences {
             put(0, 9, 3) ! -12
             put(0, 0, 4) ! -12
             put(3, 0, 2) ! -12
+            put(0, 0, 0) = 1
+            put(3, 0, 1) = 1
+            put(0, 0, 4) ! -12                  // and what was there stays
+            put(3, 0, 2) ! -12
             """ + Sentences.each("put(0, #, 0) ! -13", -1, 3, MIN, MAX) + Sentences.each("put(0, #, 4) ! -13", -1, 3, MIN, MAX)
             + Sentences.each("put(3, #, 2) ! -13", -1, 3, MIN, MAX) + "put(0, 2, 0) = 1\nput(3, 2, 1) = 1\n");
     }
@@ -708,8 +712,11 @@ final class ThingSentences {
             store(2, 0, 1) ! -18                // an OBJECT
             store(2, -1, 3) ! -18
             store(3, 0, 2) ! -14
+            store(3, 0, 1) = 1
+            store(3, 0, 2) ! -14                // and what was there stays
             store(5, 0, 1) ! -14
             store(5, 0, 5) = 1                  // ROWS of ROWS are ROWS of REFERENCES
+            store(5, 0, 1) ! -14
             """ + Sentences.each("store(1, #, 1) ! -13", -1, 3, MIN, MAX) + Sentences.each("store(3, #, 2) ! -13", -1, 3, MIN, MAX));
     }
 
