@@ -3,7 +3,9 @@ import java.nio.file.Files;
 import java.nio.file.Path;
 import java.util.ArrayList;
 import java.util.Arrays;
+import java.util.HashSet;
 import java.util.List;
+import java.util.Set;
 
 /**
  * Sentences of the document, each with runs of calls that would answer otherwise if it were broken.
@@ -16,6 +18,8 @@ final class Sentences {
     private final Check check;
     private final String document;
     private final boolean[] quoted;
+    /** Each call by its name, with each answer by which a run saw it refused or failing. */
+    private final Set<String> refusals = new HashSet<>();
     private String label = "";
     /** What changed the object of this run so far, or might have. */
     private final List<Spoken> kept = new ArrayList<>();
@@ -74,6 +78,13 @@ final class Sentences {
         }
     }
 
+    /** Each of these answers of a call was seen, and that it changed nothing. */
+    void dueRefused(String call, long... answers) {
+        for (long answer : answers) {
+            check.due(call + "() that answers " + answer + " is in a run", refusals.contains(call + " " + answer) ? 1 : 0, 1);
+        }
+    }
+
     /** Headings, the lines that repeat the face, and what is between sentences. */
     private static boolean isFrame(String rest) {
         String words = rest.replaceAll("## Promise \\d+: \\w+( new object| object)?", " ").replaceAll("`[^`]*`:?", " ")
@@ -104,6 +115,7 @@ final class Sentences {
             long want = Spoken.number(row.substring(mark + 1).trim());
             boolean refused = row.charAt(mark) == '!';
             if (refused) {
+                refusals.add(call.text.substring(0, call.text.indexOf('(')) + " " + want);
                 dueUnchanged(call, want);
             } else {
                 kept.add(call);
