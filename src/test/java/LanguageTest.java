@@ -16,20 +16,6 @@ final class LanguageTest {
     private static final String[] FORBIDDEN = {"throw", "throws", "try", "catch", "finally", "synchronized", "assert",
         "import", "package", "protected", "volatile", "native", "transient", "var", "sealed", "yield", "Object", "Double",
         "Float", "Boolean", "Character", "Exception", "Throwable", "Thread", "System", "hashCode", "toString", "getClass"};
-    private static final String[] FACE = {"ReflectMirror()", "int type(int parent, int pack, boolean isAbstract)",
-        "int face(int pack)", "int rows(int of)", "int implement(int type, int face)", "int about(int type, int what)",
-        "int ancestor(int type, int i)", "int is(int a, int b)", "int meet(int a, int b)", "int letter(int type, int i)",
-        "int field(int type, int name, int marks, int of)",
-        "int method(int type, int name, int marks, int result, int n, int a, int b, int c)",
-        "int body(int method, int kind, int x, int y)", "int member(int m, int what)", "int declared(int type, int i)",
-        "int findField(int type, int name, int way)", "int findMethod(int type, int m, int way)",
-        "int overrides(int m, int n)", "int inForce(int type, int m)", "int open(int m, boolean on)",
-        "int caller(int type)", "int may(int m, int thing)", "int object(int type)", "int row(int type, int n)",
-        "int thing(int t, int what)", "int slot(int slot, int as, long bits)", "int kind(int slot)", "long bits(int slot)",
-        "int get(int field, int thing, int as, int slot)", "int set(int field, int thing, int slot)",
-        "int item(int thing, int i, int as, int slot)", "int put(int thing, int i, int slot)",
-        "int store(int thing, int i, int slot)", "int copy(int a, int i, int b, int j, int n)",
-        "int call(int method, int thing, int n, int slot)", "int cause(int what)", "int count(int what)"};
     private static final int MOST_CLASSES = 12;
     private static final int MOST_LINES = 60;
     private static final int MOST_PARAMS = 7;
@@ -86,11 +72,6 @@ final class LanguageTest {
             check.due("params of " + name + ", at most seven", params <= MOST_PARAMS || name.equals("method") ? 1 : 0, 1);
             check.due("lines of " + name + ", at most sixty", lines(text, heads.end()) <= MOST_LINES ? 1 : 0, 1);
         }
-        check.due("the constructor and the methods of the document", open.size(), FACE.length);
-        for (String head : FACE) {
-            check.due(head, text.contains("\n    public " + head + " {\n") ? 1 : 0, 1);
-        }
-        check.due("and the constants", count(text, "\\bpublic\\b"), FACE.length + 2);
         others.retainAll(open);
         check.due("others that bear a public name: " + others, others.size(), 0);
     }
