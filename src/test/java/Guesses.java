@@ -184,11 +184,24 @@ final class Guesses {
         return call("method", t, s[0], marks, s[1], s[2], s[3], s[4], s[5]);
     }
 
-    /** A METHOD that adds, and its BODY if it is taken. */
+    /** A METHOD that adds, its BODY, and a sum of both PARAMS, if all is taken. */
     private Object[] sumCall(int t) {
         int most = 4 + any(4);
-        planned.add(call("body", told.members.size(), 6, any(2), any(2)));
-        return call("method", t, any(20), oneIn(2) ? 5 : 1, oneIn(3) ? 7 : most, 2, 1 + any(most), 1 + any(most), 0);
+        int a = oneIn(3) ? most : 1 + any(most);
+        int b = oneIn(3) ? most : 1 + any(most);
+        int m = told.members.size();
+        planned.add(call("body", m, 6, any(2), any(2)));
+        long first = bitsFor(a);
+        planned.add(call("slot", 0, a, first));
+        planned.add(call("slot", 1, b, a == b && oneIn(3) ? opposite(a, first) : bitsFor(b)));
+        planned.add(call("call", m, -1, 2, 2));
+        planned.add(call("bits", 2));
+        planned.add(call("cause", 0));
+        return call("method", t, any(20), oneIn(3) ? 1 : 5, oneIn(3) ? 7 : most, 2, a, b, 0);
+    }
+
+    private static long opposite(int as, long bits) {
+        return as == 6 ? (int) bits ^ Integer.MIN_VALUE : as == 7 ? bits ^ Long.MIN_VALUE : -bits;
     }
 
     private Object[] itemCall(int t) {
@@ -265,7 +278,7 @@ final class Guesses {
             case 4: return (int) bits;
             case 6: return oneIn(2) ? FLOATS[any(FLOATS.length)] : Float.floatToRawIntBits((float) spread(40));
             case 7: return oneIn(2) ? DOUBLES[any(DOUBLES.length)] : Double.doubleToRawLongBits(spread(100));
-            case 8: return any(told.things.size() + 1) - 1;
+            case 8: return any(told.things.size() + 1) - (oneIn(10) ? 0 : 1);
             default: return bits;
         }
     }
